@@ -1,0 +1,73 @@
+/** Promise 4: begin. */
+public final class BeginTest {
+    public static void main(String[] args) {
+        beginsAtTheLowestBits();
+        setsTheStatusAndTurnsOff();
+        leavesAllElse();
+        endsWaitingAndStandingStill();
+        Checks.finish();
+    }
+
+    private static void beginsAtTheLowestBits() {
+        PageGuards x = new PageGuards(1);
+        int[] addresses = {0, 1, 511, 512, 4095, 4096, 4100, -1, Integer.MIN_VALUE + 3};
+        int[] pcs = {0, 1, 511, 512, 4095, 0, 4, 4095, 3};
+        for (int i = 0; i < addresses.length; i++) {
+            x.begin(addresses[i]);
+            Checks.due("PC after begin(" + addresses[i] + ")", x.state(Code.PC), pcs[i]);
+        }
+        Checks.due("state(11)", x.state(11), 0);
+    }
+
+    private static void setsTheStatusAndTurnsOff() {
+        PageGuards x = Tables.on(1, 0);
+        Code.status(x, Code.IRQ | Code.V | Code.C | Code.Z | Code.N);
+        Checks.due("entries", x.state(Code.ENTRIES), 1);
+        x.begin(20);
+        Checks.due("STATUS", x.state(Code.STATUS), Code.SYSTEM | Code.NO_IRQ | Code.NO_FIQ);
+        Checks.due("ON", x.state(20), 0);
+        Checks.due("entries after", x.state(Code.ENTRIES), 0);
+        Checks.due("entry(0, 0)", x.entry(0, 0), -1);
+        Checks.due("walks", x.state(Code.WALKS), 1);
+    }
+
+    private static void leavesAllElse() {
+        PageGuards x = Code.begun();
+        for (int k = 1; k < 12; k++) {
+            Code.control(x, k, 2);
+        }
+        for (int r = 0; r < 8; r++) {
+            x.set(r, 100 + r);
+        }
+        x.set(4, Code.ABORT);
+        Code.exec(x, Code.writeKept(4));
+        x.line(1, true);
+        x.line(3, true);
+        x.poke(300, 33);
+        x.begin(20);
+        for (int k = 1; k < 11; k++) {
+            Checks.due("control " + k, x.state(20 + k), 2);
+        }
+        Checks.due("TIMER", x.state(31), 1);
+        for (int r = 0; r < 8; r++) {
+            Checks.due("R" + r, x.state(r), r == 4 ? Code.ABORT : 100 + r);
+        }
+        Checks.due("KEPT", x.state(Code.KEPT), Code.ABORT);
+        Checks.due("lines", x.state(12), 2 + 8);
+        Checks.due("word(300)", x.word(300), 33);
+    }
+
+    private static void endsWaitingAndStandingStill() {
+        PageGuards x = Code.begun();
+        Code.exec(x, Code.waits());
+        Checks.due("waits", x.state(11), 1);
+        x.begin(30);
+        Checks.due("waits after begin", x.state(11), 0);
+        Code.exec(x, Code.let(1, 5), Code.standStill());
+        Checks.due("R1", x.state(1), 5);
+        Checks.due("still", x.state(11), 2);
+        x.begin(30);
+        Checks.due("still after begin", x.state(11), 0);
+        Checks.due("run(1)", x.run(1), 1);
+    }
+}
