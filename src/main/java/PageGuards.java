@@ -283,7 +283,7 @@ public final class PageGuards {
         return raise(DATA_ABORT, pc);
     }
 
-    /** Does an operation: the PC that comes. So do all that it calls for one that may jump. */
+    /** Does an operation and answers the PC that comes, of which the lowest 12 bits count. */
     private int perform(int code) {
         int operation = code >>> 27;
         int d = code >>> 24 & 7;
@@ -607,7 +607,7 @@ public final class PageGuards {
             return place < PLACES ? place : -NO_PLACE;
         }
 
-        /** Looks an address up in the tables, into the walked entry: the STATE, 0 if there is none. */
+        /** Looks an address up in the tables, into the walked entry: the STATE, or 0. */
         private int walk(int address) {
             int place = tableFor(address) + (address >>> 8);
             if (place >= PLACES) {

@@ -12,6 +12,7 @@ public final class BufferTest {
         forgetsAll();
         forgetsAnAddress();
         forgetsASpace();
+        forgetsTheFirstAndTheLast();
         turningOffForgetsNothing();
         forbiddenEntriesComeToo();
         Checks.finish();
@@ -194,6 +195,32 @@ public final class BufferTest {
         Code.exec(x, Code.forget(2, 4));
         dueAddresses("without 0", x, 0, page(5), page(3));
         Checks.due("the space of the last", x.entry(2, 3), 4);
+    }
+
+    private static void forgetsTheFirstAndTheLast() {
+        PageGuards x = paged();
+        x.poke(SECOND + 1, Tables.small(320, 3) | Tables.OWN);
+        Tables.read(x, page(0));
+        x.set(4, 255);
+        Code.exec(x, Code.forget(1, 4));
+        dueAddresses("the first by its address", x, page(0));
+        Code.exec(x, Code.forget(0, 4));
+        Tables.read(x, page(1));
+        x.set(4, 0);
+        Code.exec(x, Code.forget(2, 4));
+        dueAddresses("the last by its space", x, 0);
+        x.set(4, page(1));
+        Code.exec(x, Code.forget(1, 4));
+        dueAddresses("what is gone goes once", x, 0);
+        x.set(4, 0);
+        Code.exec(x, Code.forget(2, 4));
+        dueAddresses("what is gone goes once, by its space", x, 0);
+        x.poke(Tables.FIRST_TABLE, Tables.CODE_SECTION | Tables.OWN);
+        Code.exec(x, Code.forget(0, 4));
+        Tables.read(x, page(0));
+        dueAddresses("walked anew", x, 0, page(0));
+        Code.exec(x, Code.forget(2, 4));
+        dueAddresses("the first by its space", x, page(0));
     }
 
     private static void turningOffForgetsNothing() {

@@ -14,6 +14,7 @@ public final class OperationsTest {
         storeManyGoesBelow();
         storeManyWithNoneOrItself();
         manyRegistersAtTheEdges();
+        placeZeroIsOneToo();
         jumps();
         statusIsReadAndWritten();
         comesBackByKept();
@@ -207,8 +208,10 @@ public final class OperationsTest {
         Code.exec(x, Code.storeMany(3, 0));
         Checks.due("R3 with none", x.state(3), 4092);
         x.set(3, 4096);
+        x.poke(0, 44);
         Code.exec(x, Code.storeMany(3, 0xFF00));
         Checks.due("R3 with bits above 7", x.state(3), 0);
+        Checks.due("word(0) with bits above 7", x.word(0), 44);
         x.set(2, 22);
         x.set(3, 4096 + 302);
         Code.exec(x, Code.storeMany(3, 0b1100));
@@ -234,6 +237,31 @@ public final class OperationsTest {
         x.set(6, 5);
         Code.status(x, Code.SYSTEM);
         Checks.due("R6 of SYSTEM", x.state(6), 66);
+    }
+
+    private static void placeZeroIsOneToo() {
+        PageGuards x = Code.begun();
+        x.set(0, 5);
+        x.set(3, 4096);
+        Code.exec(x, Code.store(0, 3, 0));
+        Checks.due("word(0)", x.word(0), 5);
+        Code.exec(x, Code.load(1, 3, 0));
+        Checks.due("R1", x.state(1), 5);
+        x.set(3, 2);
+        x.set(4, 6);
+        Code.exec(x, Code.storeMany(3, 0b10010));
+        Checks.due("R3 below", x.state(3), 0);
+        Checks.due("word(1)", x.word(1), 6);
+        x.set(0, 1);
+        Code.exec(x, Code.loadMany(3, 0b00101));
+        Checks.due("R0", x.state(0), 5);
+        Checks.due("R2", x.state(2), 6);
+        Checks.due("R3 behind", x.state(3), 2);
+        Checks.due("PC", x.state(Code.PC), 14);
+        x.begin(0);
+        Code.exec(x, Code.let(5, 8));
+        Checks.due("R5", x.state(5), 8);
+        Checks.due("PC behind 0", x.state(Code.PC), 1);
     }
 
     private static void jumps() {
