@@ -3,7 +3,10 @@ public final class BeginTest {
     public static void main(String[] args) {
         beginsAtTheLowestBits();
         setsTheStatusAndTurnsOff();
+        setsTheStatusOutOfEveryMode();
         leavesAllElse();
+        leavesWhatEachModeHas();
+        leavesAFarTimer();
         endsWaitingAndStandingStill();
         Checks.finish();
     }
@@ -31,6 +34,18 @@ public final class BeginTest {
         Checks.due("walks", x.state(Code.WALKS), 1);
     }
 
+    private static void setsTheStatusOutOfEveryMode() {
+        for (int mode = 0; mode < 6; mode++) {
+            for (int rest : new int[] {0, 0x1F8}) {
+                PageGuards x = Code.begun();
+                Code.status(x, mode | rest);
+                x.begin(20);
+                Checks.due("STATUS out of " + (mode | rest), x.state(Code.STATUS), 25);
+                Checks.due("PC out of " + (mode | rest), x.state(Code.PC), 20);
+            }
+        }
+    }
+
     private static void leavesAllElse() {
         PageGuards x = Code.begun();
         for (int k = 1; k < 12; k++) {
@@ -55,6 +70,37 @@ public final class BeginTest {
         Checks.due("KEPT", x.state(Code.KEPT), Code.ABORT);
         Checks.due("lines", x.state(12), 2 + 8);
         Checks.due("word(300)", x.word(300), 33);
+    }
+
+    /** USER comes last, as it is left by an exception or by begin alone. */
+    private static void leavesWhatEachModeHas() {
+        PageGuards x = Code.begun();
+        for (int mode : new int[] {1, 2, 3, 4, 5, 0}) {
+            Code.status(x, mode);
+            x.set(6, 60 + mode);
+            x.set(7, 70 + mode);
+            x.set(4, 300 + mode);
+            if (mode != Code.USER) {
+                Code.exec(x, Code.writeKept(4));
+            }
+        }
+        x.begin(40);
+        for (int mode : new int[] {1, 2, 3, 4, 5, 0}) {
+            Code.status(x, mode);
+            Checks.due("R6 of mode " + mode, x.state(6), 60 + mode);
+            Checks.due("R7 of mode " + mode, x.state(7), 70 + mode);
+            Checks.due("KEPT of mode " + mode, x.state(Code.KEPT), mode == Code.USER ? 0 : 300 + mode);
+        }
+    }
+
+    private static void leavesAFarTimer() {
+        PageGuards x = Code.begun();
+        Code.control(x, Code.TIMER, 65535);
+        x.begin(20);
+        Checks.due("TIMER", x.state(31), 65535);
+        x.begin(20);
+        x.run(1);
+        Checks.due("TIMER a step later", x.state(31), 65534);
     }
 
     private static void endsWaitingAndStandingStill() {

@@ -39,6 +39,20 @@ final class Tables {
         return x;
     }
 
+    /** As on, and the addresses 3840 .. 4095 are the places 256 .. 511: behind 4095 comes 0. */
+    static PageGuards round() {
+        PageGuards x = on(1, 0);
+        x.poke(FIRST_TABLE + 15, section(256, 3, 0));
+        return x;
+    }
+
+    /** Goes to the address 4095 of round() without a register, and has a word done there. */
+    static void doAtTheLast(PageGuards x, int code) {
+        Code.exec(x, Code.jump(4095 - x.state(Code.PC)));
+        x.poke(511, code);
+        Checks.due("run(1)", x.run(1), 1);
+    }
+
     /** Loads from an address into R0, by way of R1. */
     static void read(PageGuards x, int address) {
         x.set(1, address);
@@ -69,10 +83,15 @@ final class Tables {
 
     /** The latest fault with instructions is due, told to the program in ABORT at vector 3. */
     static void dueFetchFault(String what, PageGuards x, int state, int address) {
+        dueFetchFault(what, x, state, address, 3);
+    }
+
+    /** The same with the vector at some address. */
+    static void dueFetchFault(String what, PageGuards x, int state, int address, int vector) {
         Checks.due(what + ": STATE of instructions", x.state(28), state);
         Checks.due(what + ": ADDRESS of instructions", x.state(29), address);
         Checks.due(what + ": mode", x.state(Code.STATUS) & 7, Code.ABORT);
-        Checks.due(what + ": PC", x.state(Code.PC), 3);
+        Checks.due(what + ": PC", x.state(Code.PC), vector);
         Checks.due(what + ": R7", x.state(7), address);
     }
 
