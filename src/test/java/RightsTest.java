@@ -19,6 +19,7 @@ public final class RightsTest {
         everyDomainHasItsOwnBits();
         domainsCountAsTheyAreNow();
         modesCountAsTheyAreNow();
+        manyAreReadAndWrittenByTheSameRights();
         Checks.finish();
     }
 
@@ -122,5 +123,32 @@ public final class RightsTest {
         Tables.read(x, ADDRESS);
         Tables.dueDataFault("in USER", x, 6, ADDRESS);
         Checks.due("walks", x.state(Code.WALKS), 2);
+    }
+
+    private static void manyAreReadAndWrittenByTheSameRights() {
+        for (int mode = 0; mode < 6; mode++) {
+            for (int rights = 0; rights < 4; rights++) {
+                manyBy(mode, rights, READ);
+                manyBy(mode, rights, WRITE);
+            }
+        }
+    }
+
+    private static void manyBy(int mode, int rights, int use) {
+        PageGuards x = laid(1, rights, false, 16);
+        Code.status(x, mode);
+        x.poke(PLACE, 31);
+        x.set(0, 32);
+        x.set(3, use == READ ? ADDRESS : ADDRESS + 1);
+        Code.exec(x, use == READ ? Code.loadMany(3, 1) : Code.storeMany(3, 1));
+        String what = "many in mode " + mode + " by RIGHTS " + rights + " for use " + use;
+        if (wantedState(mode, use, 1, rights, false, false) != 0) {
+            Tables.dueDataFault(what, x, 6, ADDRESS);
+            Checks.due(what + ": R0", x.state(0), 32);
+            Checks.due(what + ": word", x.word(PLACE), 31);
+        } else {
+            Checks.due(what + ": STATUS", x.state(Code.STATUS), mode);
+            Checks.due(what, use == READ ? x.state(0) : x.word(PLACE), use == READ ? 31 : 32);
+        }
     }
 }

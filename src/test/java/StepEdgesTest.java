@@ -195,14 +195,17 @@ public final class StepEdgesTest {
     }
 
     private static void waitWithALineUpEndsAtOnce() {
-        PageGuards x = Code.begun();
-        x.line(1, true);
-        Code.exec(x, Code.waits());
-        Checks.due("it waits", x.state(WAITS), 1);
-        Checks.due("PC behind 25", x.state(Code.PC), 11);
-        Code.exec(x, Code.let(1, 5));
-        Checks.due("it waits no more", x.state(WAITS), 0);
-        Checks.due("R1", x.state(1), 5);
+        for (int line = 0; line < 4; line++) {
+            PageGuards x = Code.begun();
+            x.line(line, true);
+            Code.exec(x, Code.waits());
+            Checks.due("it waits", x.state(WAITS), 1);
+            Checks.due("the line stays UP", x.state(LINES), 1 << line);
+            Checks.due("PC behind 25", x.state(Code.PC), 11);
+            Code.exec(x, Code.let(1, 5));
+            Checks.due("it waits no more", x.state(WAITS), 0);
+            Checks.due("R1", x.state(1), 5);
+        }
     }
 
     private static void lineThatIsDownAgainEndsNoWait() {
