@@ -18,6 +18,7 @@ public final class LeavesTheRestTest {
         statusOperations();
         otherOperations();
         exceptions();
+        whatIsNotDoneByWhen();
         Checks.finish();
     }
 
@@ -65,6 +66,15 @@ public final class LeavesTheRestTest {
         dueChanges(Code.call(), "KEPT", "PC", "R7");
         dueChanges(Code.load(2, 3, 600), "ADDRESS", "KEPT", "PC", "R6", "R7", "STATE", "STATUS", "walks");
         dueChanges(Code.store(2, 3, 600), "ADDRESS", "KEPT", "PC", "R6", "R7", "STATE", "STATUS", "walks");
+    }
+
+    /** "What is not to be done by WHEN does nothing": Z is 0, and n is right, wrong, or too far. */
+    private static void whatIsNotDoneByWhen() {
+        for (int operation = 0; operation < 32; operation++) {
+            for (int n : new int[] {0, 1, 2, 600, -1}) {
+                dueChanges(Code.when(1, Code.op(operation, 2, 3, 4, n)), "PC");
+            }
+        }
     }
 
     private static void dueChanges(int code, String... names) {
